@@ -216,6 +216,10 @@ public final class PeopleTest {
         D.due("9: prisoner 2", x.move(2), Due.BAD);
         D.due("9: prisoner -1", x.move(-1), Due.BAD);
         D.due("9: no more visits", x.ask(0, 1, 9, 1, 1), -11);
+        VisitHall y = withOnePrisoner();
+        y.list(0, 0, 1);
+        y.ask(0, 1, 0, 1, 0);
+        D.due("9: from day 0 on", y.move(0), 1);
     }
 
     private static void told() {

@@ -84,6 +84,9 @@ public final class RightsTest {
         fault("1 in 0", 5);
         fault("1 in 61", 5);
         fault("1 in in", 5);
+        fault("1 in :", 5);
+        fault("1 in 1:", 5);
+        fault("1 in /", 5);
         fault("1 in 3x", 5);
         fault("1 in 3 4", 7);
         fault("1 in 3 fa", 7);

@@ -8,6 +8,7 @@ public final class VisitsTest {
         peopleReasons();
         rightReasons();
         spans();
+        spansSideBySide();
         farSpans();
         meetings();
         tables();
@@ -157,6 +158,18 @@ public final class VisitsTest {
         D.due("15: 6 at the last day", x.why(0, 1, 340, 1), 0);
     }
 
+    /** Two visits that no span of three days has both of; one between them is in a span with either. */
+    private static void spansSideBySide() {
+        VisitHall x = open("2 in 3", 1);
+        x.ask(0, 1, 1, 1, 0);
+        x.ask(0, 1, 4, 1, 0);
+        D.due("15: 6 with either", x.ask(0, 1, 3, 1, 0), 2);
+        D.due("15: 6 with two of them", x.ask(0, 1, 2, 1, 0), -16);
+        D.due("15: 6 with two of them", x.ask(0, 1, 5, 1, 0), -16);
+        D.due("15: 6 with one of them", x.ask(0, 1, 6, 1, 0), 3);
+        D.due("15: 6 with one of them", x.ask(0, 1, 0, 1, 0), 4);
+    }
+
     private static void farSpans() {
         VisitHall x = open("1 in 7 far 8 and 2", 1);
         x.visitor(0, 0, 7);
@@ -220,6 +233,7 @@ public final class VisitsTest {
         D.due("15: 9 free at the second", x.ask(2, 4, 3, 12, 0), 2);
         D.due("15: 9 full at the second", x.ask(3, 8, 3, 11, 0), -19);
         D.due("15: 9 free at the third", x.ask(3, 8, 3, 21, 0), 3);
+        D.due("15: 9 up to a full half", x.why(5, 32, 3, 101), 0);
         D.due("15: 9 another day", x.ask(4, 16, 4, 1, 0), 4);
         D.due("15: 9 waits", x.ask(5, 32, 3, 2, 1), 5);
         x.sheet(0, 4);
@@ -271,6 +285,22 @@ public final class VisitsTest {
         D.due("15: which has freed a table for the fourth", x.visit(3, 5), 0);
         D.due("21: full", x.hall(3, 1, 1), 0);
         D.due("21: full", x.hall(3, 2, 1), 0);
+        lawyersTakeNoMore();
+    }
+
+    /** Full halves ahead of a visit and behind it are nothing to it. */
+    private static void lawyersTakeNoMore() {
+        VisitHall x = open("9 in 1", 4);
+        x.visitor(2, 0, 0);
+        x.rule(0, 1);
+        x.ask(0, 1, 3, 31, 0);
+        x.ask(1, 2, 3, 61, 0);
+        D.due("15: between full halves", x.ask(2, 4, 3, 42, 0), 2);
+        D.due("15: a lawyer's takes that table", x.ask(3, 16, 3, 42, 0), 3);
+        int[] states = {0, 0, 1, 0};
+        for (int v = 0; v < 4; v++) {
+            D.due("15: state of " + v, x.visit(v, 5), states[v]);
+        }
     }
 
     private static void lawyersWhoCannot() {
