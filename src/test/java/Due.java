@@ -17,6 +17,14 @@ final class Due {
         }
     }
 
+    void due(String call, String got, String want) {
+        asked++;
+        if (!got.equals(want)) {
+            wrong++;
+            System.out.println(call + " answered " + got + ", due is " + want);
+        }
+    }
+
     /** Ends the program with exit code 1 if one answer was not as due. */
     void end() {
         System.out.println(asked - wrong + " answers as due, " + wrong + " not");
@@ -39,6 +47,27 @@ final class Due {
     static int right(VisitHall x, int aClass, String text) {
         tell(x, text);
         return x.right(aClass);
+    }
+
+    /** So many prisoners of class 0 and families 0, 1 .., each with a plain visitor of the same number on the list. */
+    static VisitHall open(String right, int people) {
+        VisitHall x = new VisitHall();
+        right(x, 0, right);
+        for (int i = 0; i < people; i++) {
+            x.prisoner(0, i);
+            x.visitor(0, i, 0);
+            x.list(i, i, 1);
+        }
+        return x;
+    }
+
+    /** The states of the first visits, one digit each: 0 LET, 1 WAITS, 2 GIVEN BACK. */
+    static String states(VisitHall x, int visits) {
+        StringBuilder s = new StringBuilder();
+        for (int v = 0; v < visits; v++) {
+            s.append(x.visit(v, 5));
+        }
+        return s.toString();
     }
 
     private static int number(byte[] b, int i) {

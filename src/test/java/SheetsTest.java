@@ -32,7 +32,7 @@ public final class SheetsTest {
     }
 
     private static void hall() {
-        VisitHall x = VisitsTest.open("9 in 1 long 4", 4);
+        VisitHall x = Due.open("9 in 1 long 4", 4);
         x.ask(0, 1, 10, 34, 0);
         x.ask(1, 2, 10, 52, 0);
         x.ask(2, 4, 10, 61, 1);
@@ -57,7 +57,7 @@ public final class SheetsTest {
     }
 
     private static void comes() {
-        VisitHall x = VisitsTest.open("9 in 1", 4);
+        VisitHall x = Due.open("9 in 1", 4);
         x.visitor(1, 0, 0);
         x.visitor(3, 0, 0);
         x.list(0, 4, 1);
@@ -96,7 +96,7 @@ public final class SheetsTest {
 
     /** Searched is who is below the bound, not who is at it. */
     private static void searchedAtTheBound() {
-        VisitHall x = VisitsTest.open("9 in 1", 1);
+        VisitHall x = Due.open("9 in 1", 1);
         x.ask(0, 1, 7, 1, 0);
         for (int oneIn : new int[] {2, 3, 4, 97, 100}) {
             int bound = 16777216 / oneIn;
@@ -181,7 +181,7 @@ public final class SheetsTest {
 
     /** What a sheet tells is used from the next look on; telling it makes nobody be looked at. */
     private static void marksLetNobody() {
-        VisitHall x = VisitsTest.open("9 in 1", 2);
+        VisitHall x = Due.open("9 in 1", 2);
         x.sheet(0, 1);
         D.due("24: no table", x.ask(0, 1, 0, 1, 1), 0);
         x.mark(0, 0, 1);
@@ -246,7 +246,7 @@ public final class SheetsTest {
     }
 
     private static void counts() {
-        VisitHall x = VisitsTest.open("9 in 1", 3);
+        VisitHall x = Due.open("9 in 1", 3);
         x.rule(0, 1);
         x.ask(0, 1, 0, 1, 0);
         x.ask(1, 2, 0, 1, 1);

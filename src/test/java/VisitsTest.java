@@ -24,20 +24,8 @@ public final class VisitsTest {
         D.end();
     }
 
-    /** So many prisoners of class 0 and families 0, 1 .., each with a plain visitor of the same number on the list. */
-    static VisitHall open(String right, int people) {
-        VisitHall x = new VisitHall();
-        Due.right(x, 0, right);
-        for (int i = 0; i < people; i++) {
-            x.prisoner(0, i);
-            x.visitor(0, i, 0);
-            x.list(i, i, 1);
-        }
-        return x;
-    }
-
     private static void badAsks() {
-        VisitHall x = open("9 in 1 long 4", 5);
+        VisitHall x = Due.open("9 in 1 long 4", 5);
         x.days(2);
         int[][] bad = {{-1, 1, 2, 1, 0}, {5, 1, 2, 1, 0}, {0, 0, 2, 1, 0}, {0, 32, 2, 1, 0}, {0, 33, 2, 1, 0},
             {0, 15, 2, 1, 0}, {0, -1, 2, 1, 0}, {0, 1 << 31, 2, 1, 0}, {0, 1, 1, 1, 0}, {0, 1, -1, 1, 0},
@@ -58,7 +46,7 @@ public final class VisitsTest {
     }
 
     private static void full() {
-        VisitHall x = open("0 in 1", 2);
+        VisitHall x = Due.open("0 in 1", 2);
         for (int i = 0; i < 100; i++) {
             D.due("15: visit " + i, x.ask(0, 1, 0, 1, 1), i);
         }
@@ -72,7 +60,7 @@ public final class VisitsTest {
     }
 
     private static void peopleReasons() {
-        VisitHall x = open("9 in 1", 2);
+        VisitHall x = Due.open("9 in 1", 2);
         x.visitor(1, 0, 0);
         x.visitor(2, 0, 0);
         x.visitor(3, 0, 0);
@@ -108,7 +96,7 @@ public final class VisitsTest {
     }
 
     private static void rightReasons() {
-        VisitHall x = open("9 in 1 not 0 or 6", 2);
+        VisitHall x = Due.open("9 in 1 not 0 or 6", 2);
         x.visitor(2, 0, 0);
         x.prisoner(3, 0);
         x.list(2, 0, 1);
@@ -130,7 +118,7 @@ public final class VisitsTest {
     }
 
     private static void spans() {
-        VisitHall x = open("2 in 5", 2);
+        VisitHall x = Due.open("2 in 5", 2);
         x.visitor(2, 0, 0);
         x.ask(0, 1, 10, 1, 0);
         x.ask(0, 1, 13, 1, 0);
@@ -160,7 +148,7 @@ public final class VisitsTest {
 
     /** Two visits that no span of three days has both of; one between them is in a span with either. */
     private static void spansSideBySide() {
-        VisitHall x = open("2 in 3", 1);
+        VisitHall x = Due.open("2 in 3", 1);
         x.ask(0, 1, 1, 1, 0);
         x.ask(0, 1, 4, 1, 0);
         D.due("15: 6 with either", x.ask(0, 1, 3, 1, 0), 2);
@@ -171,7 +159,7 @@ public final class VisitsTest {
     }
 
     private static void farSpans() {
-        VisitHall x = open("1 in 7 far 8 and 2", 1);
+        VisitHall x = Due.open("1 in 7 far 8 and 2", 1);
         x.visitor(0, 0, 7);
         x.visitor(0, 0, 8);
         x.visitor(2, 0, 20);
@@ -189,7 +177,7 @@ public final class VisitsTest {
     }
 
     private static void meetings() {
-        VisitHall x = open("9 in 1 long 4", 4);
+        VisitHall x = Due.open("9 in 1 long 4", 4);
         x.visitor(2, 0, 0);
         x.list(1, 0, 1);
         x.rule(0, 6);
@@ -225,7 +213,7 @@ public final class VisitsTest {
     }
 
     private static void tables() {
-        VisitHall x = open("9 in 1", 6);
+        VisitHall x = Due.open("9 in 1", 6);
         x.rule(0, 2);
         x.ask(0, 1, 3, 1, 0);
         x.ask(1, 2, 3, 2, 0);
@@ -249,7 +237,7 @@ public final class VisitsTest {
     }
 
     private static void lawyersTakeTables() {
-        VisitHall x = open("9 in 1 long 4", 6);
+        VisitHall x = Due.open("9 in 1 long 4", 6);
         x.visitor(2, 0, 0);
         x.rule(0, 2);
         x.ask(0, 1, 3, 13, 0);
@@ -270,7 +258,7 @@ public final class VisitsTest {
 
     /** With tables told anew there may be more let than tables: then several go at one half. */
     private static void lawyersTakeSeveral() {
-        VisitHall x = open("9 in 1 long 4", 6);
+        VisitHall x = Due.open("9 in 1 long 4", 6);
         x.visitor(2, 0, 0);
         x.rule(0, 5);
         x.ask(0, 1, 3, 11, 0);
@@ -290,7 +278,7 @@ public final class VisitsTest {
 
     /** Full halves ahead of a visit and behind it are nothing to it. */
     private static void lawyersTakeNoMore() {
-        VisitHall x = open("9 in 1", 4);
+        VisitHall x = Due.open("9 in 1", 4);
         x.visitor(2, 0, 0);
         x.rule(0, 1);
         x.ask(0, 1, 3, 31, 0);
@@ -304,7 +292,7 @@ public final class VisitsTest {
     }
 
     private static void lawyersWhoCannot() {
-        VisitHall x = open("9 in 1 long 4", 6);
+        VisitHall x = Due.open("9 in 1 long 4", 6);
         x.visitor(2, 0, 0);
         x.visitor(2, 0, 0);
         x.rule(0, 1);
@@ -324,7 +312,7 @@ public final class VisitsTest {
     }
 
     private static void orderOfReasons() {
-        VisitHall x = open("1 in 1 not 1", 4);
+        VisitHall x = Due.open("1 in 1 not 1", 4);
         x.visitor(3, 0, 0);
         x.list(0, 4, 1);
         x.rule(0, 1);
@@ -340,7 +328,7 @@ public final class VisitsTest {
     }
 
     private static void waiting() {
-        VisitHall x = open("9 in 1", 6);
+        VisitHall x = Due.open("9 in 1", 6);
         x.rule(0, 1);
         D.due("15: let although it may wait", x.ask(0, 1, 3, 2, 1), 0);
         x.ask(1, 2, 3, 1, 1);
@@ -369,7 +357,7 @@ public final class VisitsTest {
 
     /** Each is looked at once: who was passed before room came has to wait for the next time. */
     private static void lookingOnce() {
-        VisitHall x = open("9 in 1 long 4", 5);
+        VisitHall x = Due.open("9 in 1 long 4", 5);
         x.visitor(2, 0, 0);
         x.visitor(2, 0, 0);
         x.rule(0, 1);
@@ -391,7 +379,7 @@ public final class VisitsTest {
     }
 
     private static void gone() {
-        VisitHall x = open("9 in 1", 2);
+        VisitHall x = Due.open("9 in 1", 2);
         x.ask(0, 1, 3, 1, 0);
         x.ask(1, 2, 4, 1, 0);
         D.due("17: visit -1", x.giveBack(-1), Due.BAD);
@@ -404,7 +392,7 @@ public final class VisitsTest {
     }
 
     private static void told() {
-        VisitHall x = open("9 in 1", 3);
+        VisitHall x = Due.open("9 in 1", 3);
         x.visitor(2, 0, 0);
         x.ask(2, 12, 9, 72, 0);
         x.ask(1, 8, 10, 114 - 30, 0);
@@ -421,7 +409,7 @@ public final class VisitsTest {
     }
 
     private static void rules() {
-        VisitHall x = open("9 in 1", 3);
+        VisitHall x = Due.open("9 in 1", 3);
         int[][] bad = {{0, 0}, {0, 7}, {0, -1}, {1, 0}, {1, 101}, {1, -5}, {3, 1}, {-1, 1}};
         for (int[] b : bad) {
             D.due("19: rule(" + b[0] + ", " + b[1] + ")", x.rule(b[0], b[1]), Due.BAD);
