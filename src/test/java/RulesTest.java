@@ -71,7 +71,7 @@ public final class RulesTest {
         }
     }
 
-    /** Rules 2, 3, 5 and 11. */
+    /** Rules 1, 2, 5 and 11. */
     private static void classesInside() {
         List<Class<?>> all = new ArrayList<>(Arrays.asList(VisitHall.class.getDeclaredClasses()));
         for (Class<?> c : all) {
@@ -79,6 +79,12 @@ public final class RulesTest {
                 && !Modifier.isPublic(c.getModifiers()) && !Modifier.isProtected(c.getModifiers());
             D.due("rule 2: " + c, fits ? 1 : 0, 1);
             D.due("rule 2: nothing inside " + c, c.getDeclaredClasses().length, 0);
+        }
+        for (Class<?> c : all) {
+            for (Method m : c.getDeclaredMethods()) {
+                boolean asInTheFace = FACE.stream().anyMatch(f -> f.startsWith(m.getName() + " "));
+                D.due("rule 1: no method inside bears a public one's name, " + m, asInTheFace ? 1 : 0, 0);
+            }
         }
         all.add(VisitHall.class);
         D.due("rule 11: classes " + all, all.size() <= 12 ? 1 : 0, 1);

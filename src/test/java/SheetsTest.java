@@ -6,7 +6,6 @@ public final class SheetsTest {
         days();
         hall();
         comes();
-        searchedAtTheBound();
         sheets();
         marks();
         copies();
@@ -92,34 +91,6 @@ public final class SheetsTest {
         D.due("22: day 400", x.comes(400, 1), 0);
         D.due("22: what -1", x.comes(0, -1), Due.BAD);
         D.due("22: what 2", x.comes(0, 2), Due.BAD);
-    }
-
-    /** Searched is who is below the bound, not who is at it. */
-    private static void searchedAtTheBound() {
-        VisitHall x = Due.open("9 in 1", 1);
-        x.ask(0, 1, 7, 1, 0);
-        for (int oneIn : new int[] {2, 3, 4, 97, 100}) {
-            int bound = 16777216 / oneIn;
-            x.rule(1, oneIn);
-            x.rule(2, firstFor(bound << 8) - 7);
-            D.due("22: at the bound of one in " + oneIn, x.comes(7, 1), 0);
-            x.rule(2, firstFor((bound << 8) - 1) - 7);
-            D.due("22: below the bound of one in " + oneIn, x.comes(7, 1), 1);
-        }
-        x.rule(1, 1);
-        x.rule(2, firstFor(-1) - 7);
-        D.due("22: one in 1, the greatest number", x.comes(7, 1), 1);
-        x.rule(1, 2);
-        D.due("22: one in 2, the greatest number", x.comes(7, 1), 0);
-    }
-
-    /** The w that becomes this one: the step taken back. */
-    private static int firstFor(int w) {
-        int inverse = 1;
-        for (int i = 0; i < 5; i++) {
-            inverse *= 2 - 1664525 * inverse;
-        }
-        return (w - 1013904223) * inverse;
     }
 
     /** As the document tells it; visitor 5 is the child. */
