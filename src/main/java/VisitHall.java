@@ -504,7 +504,7 @@ public final class VisitHall {
         int orderCount() {
             int orders = 0;
             for (int p = 0; p < prisonerCount; p++) {
-                orders += prisoners[p].orderCount();
+                orders += prisoners[p].ordersThere();
             }
             return orders;
         }
@@ -546,7 +546,7 @@ public final class VisitHall {
             return false;
         }
 
-        int orderCount() {
+        int ordersThere() {
             int there = 0;
             for (int v = 0; v < orders.length; v++) {
                 there += orders[v] == NEVER ? 0 : 1;
@@ -997,19 +997,16 @@ public final class VisitHall {
         }
 
         private boolean meetsRivals(Visit v) {
+            Prisoner own = people.prisonerAt(v.prisoner);
             for (int i = 0; i < book.size; i++) {
                 Visit other = book.visits[i];
-                if (other.state == LET && other.sharesHalfWith(v) && areOfRivals(v, other)) {
+                Prisoner theirs = people.prisonerAt(other.prisoner);
+                if (own != null && theirs != null && people.areRivals(own.family, theirs.family)
+                        && other.state == LET && other.sharesHalfWith(v)) {
                     return true;
                 }
             }
             return false;
-        }
-
-        private boolean areOfRivals(Visit v, Visit other) {
-            Prisoner p = people.prisonerAt(v.prisoner);
-            Prisoner q = people.prisonerAt(other.prisoner);
-            return p != null && q != null && people.areRivals(p.family, q.family);
         }
 
         /**

@@ -9,7 +9,9 @@ import java.nio.file.Path;
 import java.util.ArrayList;
 import java.util.Arrays;
 import java.util.List;
+import java.util.Map;
 import java.util.Set;
+import java.util.TreeMap;
 import java.util.TreeSet;
 import java.util.regex.Matcher;
 import java.util.regex.Pattern;
@@ -30,8 +32,11 @@ public final class RulesTest {
         String code = source.replaceAll("(?s)/\\*.*?\\*/", "").replaceAll("//[^\n]*", "");
         face();
         classesInside();
+        typesInside();
         forbiddenWords(code.replaceAll("\"[^\"\n]*\"", "\"\""));
-        lengths(source);
+        Map<String, String> bodies = bodies(code);
+        lengths(bodies);
+        depths(bodies);
         D.end();
     }
 
@@ -126,23 +131,88 @@ public final class RulesTest {
         return all;
     }
 
-    /** Rule 11: a method ends at the first closing brace that stands as far in as it begins. */
-    private static void lengths(String source) {
-        Pattern head = Pattern.compile("^( +)(?!.*\\bclass\\b)[\\w\\[\\]. ]+\\(.*\\{$");
-        String[] lines = source.split("\n");
-        int methods = 0;
+    /** Rules 3 and 5: what fields hold, and what methods take and answer. */
+    private static void typesInside() {
+        List<Class<?>> own = new ArrayList<>(Arrays.asList(VisitHall.class.getDeclaredClasses()));
+        own.add(VisitHall.class);
+        for (Class<?> c : own) {
+            for (Field f : c.getDeclaredFields()) {
+                D.due("rule 3: " + f, isAllowed(f.getType(), own) ? 1 : 0, 1);
+                if (Modifier.isStatic(f.getModifiers())) {
+                    boolean fits = Set.of("int", "long", "boolean", "char", "String").contains(f.getType().getSimpleName());
+                    D.due("rule 5: a plain constant, " + f, fits ? 1 : 0, 1);
+                }
+            }
+            for (Method m : c.getDeclaredMethods()) {
+                boolean fits = isAllowed(m.getReturnType(), own);
+                for (Class<?> type : m.getParameterTypes()) {
+                    fits &= isAllowed(type, own);
+                }
+                D.due("rule 3: " + m, fits ? 1 : 0, 1);
+            }
+        }
+    }
+
+    private static boolean isAllowed(Class<?> type, List<Class<?>> own) {
+        Class<?> plain = type.isArray() ? type.getComponentType() : type;
+        return plain.isPrimitive() || own.contains(plain) || type == String.class;
+    }
+
+    /**
+     * The lines of each method by its name, constructors by their class's; a method ends at the first closing brace
+     * that stands as far in as it begins. No two bear one name, so that a name tells which one is called.
+     */
+    private static Map<String, String> bodies(String code) {
+        Pattern head = Pattern.compile("^( {4}| {8})(?!if |for |while |switch |\\} )(?:[\\w\\[\\]]+ )*(\\w+)\\(.*\\{$");
+        String[] lines = code.split("\n");
+        Map<String, String> bodies = new TreeMap<>();
         for (int i = 0; i < lines.length; i++) {
             Matcher m = head.matcher(lines[i]);
-            if (!m.find() || m.group(1).length() > 8 || lines[i].matches(" +(if|for|while|switch|else).*")) {
+            if (!m.find()) {
                 continue;
             }
-            int end = i;
-            while (end < lines.length && !lines[end].equals(m.group(1) + "}")) {
-                end++;
+            StringBuilder body = new StringBuilder();
+            for (i++; i < lines.length && !lines[i].equals(m.group(1) + "}"); i++) {
+                body.append(lines[i]).append('\n');
             }
-            methods++;
-            D.due("rule 11: lines of " + lines[i].trim(), end - i < 60 ? 1 : 0, 1);
+            D.due("one method named " + m.group(2), bodies.put(m.group(2), body.toString()) == null ? 1 : 0, 1);
         }
-        D.due("rule 11: methods were found", methods > 60 ? 1 : 0, 1);
+        int declared = 0;
+        List<Class<?>> own = new ArrayList<>(Arrays.asList(VisitHall.class.getDeclaredClasses()));
+        own.add(VisitHall.class);
+        for (Class<?> c : own) {
+            declared += c.getDeclaredMethods().length;
+        }
+        long methods = bodies.keySet().stream().filter(name -> Character.isLowerCase(name.charAt(0))).count();
+        D.due("all methods were found in the source", methods, declared);
+        return bodies;
+    }
+
+    /** Rule 11. */
+    private static void lengths(Map<String, String> bodies) {
+        bodies.forEach((name, body) -> D.due("rule 11: lines of " + name, body.split("\n").length < 58 ? 1 : 0, 1));
+    }
+
+    /** Rules 8 and 11: no method comes to itself again, and no call goes more than eight deep. */
+    private static void depths(Map<String, String> bodies) {
+        for (String name : bodies.keySet()) {
+            List<String> longest = longestChain(name, bodies, new ArrayList<>());
+            D.due("rule 11: calls one in the other " + longest, longest.size() <= 8 ? 1 : 0, 1);
+        }
+    }
+
+    private static List<String> longestChain(String name, Map<String, String> bodies, List<String> open) {
+        List<String> longest = List.of();
+        boolean again = open.contains(name);
+        D.due("rule 8: " + open + " calls " + name + " again", again ? 1 : 0, 0);
+        List<String> within = new ArrayList<>(open);
+        within.add(name);
+        for (String called : again ? List.<String>of() : found(bodies.get(name), "\\w+(?=\\()")) {
+            List<String> chain = bodies.containsKey(called) ? longestChain(called, bodies, within) : List.of();
+            longest = chain.size() > longest.size() ? chain : longest;
+        }
+        List<String> all = new ArrayList<>(List.of(name));
+        all.addAll(longest);
+        return all;
     }
 }
